@@ -1237,7 +1237,9 @@ public final class Proofweigh {
     private static final class Closure {
         private final Codes codes;
         private final Ints isHere = new Ints(MOST_CODES);
-        private final Ints come = new Ints(MOST_CODES);
+        // The clauses that have come, each by its two sets of variables.
+        private final Ints plain = new Ints(MOST_CODES);
+        private final Ints denied = new Ints(MOST_CODES);
         private int count;
         private int knownWidth;
 
@@ -1278,14 +1280,14 @@ public final class Proofweigh {
         }
 
         private void resolveWithEarlier(int next, int width) {
-            int ones = codes.onesOf(come.at(next));
-            int twos = codes.twosOf(come.at(next));
+            int ones = plain.at(next);
+            int twos = denied.at(next);
             for (int before = 0; before < next; before++) {
-                int otherOnes = codes.onesOf(come.at(before));
-                int otherTwos = codes.twosOf(come.at(before));
+                int otherOnes = plain.at(before);
+                int otherTwos = denied.at(before);
                 int clash = ones & otherTwos | twos & otherOnes;
                 // With more than one such variable another one would be in the resolvent both ways.
-                if (Integer.bitCount(clash) == 1) {
+                if (clash != 0 && (clash & (clash - 1)) == 0) {
                     keep(codes.join((ones | otherOnes) & ~clash, (twos | otherTwos) & ~clash), width);
                 }
             }
@@ -1294,7 +1296,8 @@ public final class Proofweigh {
         private void keep(int code, int width) {
             if (isHere.at(code) == 0 && codes.widthOf(code) <= width) {
                 isHere.put(code, 1);
-                come.put(count, code);
+                plain.put(count, codes.onesOf(code));
+                denied.put(count, codes.twosOf(code));
                 count++;
             }
         }
@@ -1693,7 +1696,7 @@ public final class Proofweigh {
         }
 
         private void takeProducts(Formula formula, int degree) {
-            for (int clause = 0; clause < formula.count; clause++) {
+            for (int clause = 0; clause < formula.count && !hasOne(); clause++) {
                 int code = formula.codeOf(clause);
                 int more = degree - codes.widthOf(code);
                 // A product by a variable of its own is 0 or the polynomial itself.
@@ -1740,7 +1743,7 @@ public final class Proofweigh {
             boolean isGrowing = true;
             for (int round = 0; round <= MOST_SETS && isGrowing; round++) {
                 isGrowing = false;
-                for (int lead = 0; lead < sets; lead++) {
+                for (int lead = 0; lead < sets && !hasOne(); lead++) {
                     if (isThere.at(lead) != 0 && isSpread.at(lead) == 0 && Integer.bitCount(lead) < degree) {
                         isSpread.put(lead, 1);
                         isGrowing = true;

@@ -35,16 +35,18 @@ public final class AgainstPlainTest {
     }
 
     public static void main(String[] args) {
-        int runs = args.length > 0 ? Integer.parseInt(args[0]) : 60;
+        int runs = args.length > 0 ? Integer.parseInt(args[0]) : 150;
         long seed = args.length > 1 ? Long.parseLong(args[1]) : 1L;
         AgainstPlainTest test = new AgainstPlainTest(seed);
         for (int run = 0; run < runs; run++) {
             test.run(run);
+            test.formulaRun(run);
+            test.proofRun(run);
         }
         if (args.length > 2) {
             test.tally.entrySet().stream().sorted(Map.Entry.comparingByKey()).forEach(System.out::println);
         }
-        System.out.println("AgainstPlainTest: " + runs + " runs of " + CALLS + " calls are the same");
+        System.out.println("AgainstPlainTest: " + runs + " runs of drawn calls, of formulas and of proofs are the same");
     }
 
     private static Map<String, Method> methodsOf(Class<?> type) {
@@ -80,6 +82,99 @@ public final class AgainstPlainTest {
             call(run, name, argumentsOf(name, most));
             many++;
         }
+    }
+
+    /** Draws a formula that no values keep, and looks for all least ones. */
+    private void formulaRun(int run) {
+        our = new Proofweigh();
+        plain = new PlainWeigher();
+        for (int round = 0; round < 6; round++) {
+            int n = 1 + random.nextInt(random.nextInt(8) == 0 ? 6 : 4);
+            drawContradiction(run, n);
+            for (String name : SEARCH) {
+                if (name.endsWith("egree")) {
+                    for (int prime : new int[] {2, 3, 5, 7}) {
+                        call(run, name, prime);
+                    }
+                } else if (name.equals("ask")) {
+                    for (int trial = 0; trial < 5; trial++) {
+                        call(run, name, fewAnswers(n));
+                    }
+                } else if (name.equals("saturated")) {
+                    call(run, name, random.nextInt(7));
+                } else {
+                    call(run, name);
+                }
+            }
+        }
+    }
+
+    private void drawContradiction(int run, int n) {
+        call(run, "variables", n);
+        int most = 1 + random.nextInt(Math.min(n, 3));
+        while (plain.clauses() < 32 && plain.models() > 0) {
+            int[] digits = new int[n];
+            for (int literal = 0; literal < most; literal++) {
+                digits[random.nextInt(n)] = 1 + random.nextInt(2);
+            }
+            int code = 0;
+            for (int v = 0; v < n; v++) {
+                code += digits[v] * (int) Math.pow(3, v);
+            }
+            call(run, "add", code);
+        }
+    }
+
+    private int fewAnswers(int n) {
+        int code = 0;
+        for (int v = 0; v < n; v++) {
+            code += (random.nextInt(3) == 0 ? 1 + random.nextInt(2) : 0) * (int) Math.pow(3, v);
+        }
+        return code;
+    }
+
+    /** Draws a proof that ends, and tells all that can be told of it. */
+    private void proofRun(int run) {
+        our = new Proofweigh();
+        plain = new PlainWeigher();
+        for (int round = 0; round < 12; round++) {
+            int n = 2 + random.nextInt(3);
+            drawContradiction(run, n);
+            for (int clause = 0; clause < plain.clauses() && clause < 20; clause++) {
+                call(run, "line", random.nextInt(6) == 0 ? random.nextInt(plain.clauses()) : clause);
+            }
+            for (int step = 0; step < 60 && !hasEnd(); step++) {
+                call(run, "resolve", resolveArguments(n, plain.manyLines()));
+            }
+            for (String name : new String[] {"isTree", "isRegular", "unfolded", "space", "neededShare", "toPlanes"}) {
+                call(run, name);
+            }
+            for (char what : "swde".toCharArray()) {
+                call(run, "proof", what);
+            }
+            for (int trial = 0; trial < 4; trial++) {
+                for (int clause = 0; clause < plain.clauses(); clause++) {
+                    call(run, "side", clause, random.nextInt(2));
+                }
+                call(run, "between");
+            }
+            for (int plane = 0; plane < plain.planes(); plane++) {
+                call(run, "refutes", plane);
+                for (int variable = -1; variable < n; variable++) {
+                    call(run, "planeAt", plane, variable);
+                }
+            }
+            call(run, "isTrue");
+        }
+    }
+
+    private boolean hasEnd() {
+        for (int line = 0; line < plain.manyLines(); line++) {
+            if (plain.lineAt(line) == 0) {
+                return true;
+            }
+        }
+        return false;
     }
 
     private String pick(String[] names) {

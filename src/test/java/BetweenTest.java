@@ -6,6 +6,7 @@ public final class BetweenTest {
         promise42();
         promise43();
         promise43sides();
+        promise43parts();
         promise44();
         promise45();
         promise46();
@@ -97,6 +98,25 @@ public final class BetweenTest {
         y.cut(3);
         y.resolve(1, 2, 0);
         CHECK.due("the one of the side 1", 1L, y::between);
+    }
+
+    /** x0 or x1, x0 denied or x2, not x1, not x2: x0 is in the first two alone. */
+    private static void promise43parts() {
+        Proofweigh x = Check.formula(3, 1 + 3, 2 + 9, 6, 18);
+        Check.putAll(x);
+        x.resolve(0, 2, 1);
+        x.resolve(1, 3, 2);
+        x.resolve(4, 5, 0);
+        x.side(2, 1);
+        x.side(3, 1);
+        CHECK.due("x0 is of the side 0: x1 or x2", 4L + 8L + 16L + 32L + 64L + 128L, x::between);
+        for (int clause = 0; clause < 4; clause++) {
+            x.side(clause, clause < 2 ? 1 : 0);
+        }
+        CHECK.due("x0 is of the side 1: neither x1 nor x2", 1L + 2L, x::between);
+        x.add(1);
+        CHECK.due("x0 is shared: not x1, then not x2", 1L + 2L + 8L + 16L, x::between);
+        CHECK.due("isTrue", true, x::isTrue);
     }
 
     private static void promise44() {

@@ -146,6 +146,9 @@ public final class FormulasTest {
         CHECK.due("holes(4, 2)", Check.ARGUMENT, () -> x.holes(4, 2));
         CHECK.due("holes(-2, -3)", Check.ARGUMENT, () -> x.holes(-2, -3));
         CHECK.due("holes(65536, 65536)", Check.ARGUMENT, () -> x.holes(65536, 65536));
+        // As ints both products are 2.
+        CHECK.due("holes(1431655766, 3)", Check.ARGUMENT, () -> x.holes(1431655766, 3));
+        CHECK.due("holes(3, 1431655766)", Check.ARGUMENT, () -> x.holes(3, 1431655766));
         CHECK.due("clauses after what throws", 3, x::clauses);
         CHECK.due("holes(3, 2)", 9, () -> x.holes(3, 2));
         dueClauses("holes(3, 2)", x, 4, 36, 324, 20, 164, 180, 60, 492, 540);

@@ -11,9 +11,12 @@ public final class LinesTest {
         dueMeasures("a line used twice", shared(), 6, 2, 2, 5, false, true, 7L, 3);
         dueMeasures("a variable resolved twice", irregular(), 8, 2, 3, 7, false, false, 9L, 3);
         dueMeasures("a row", stair(5), 11, 2, 5, 10, true, true, 11L, 2);
+        dueMeasures("a row at the other side", otherStair(), 9, 2, 4, 8, true, true, 9L, 2);
+        dueMeasures("irregular at the other side", otherIrregular(), 8, 2, 3, 7, false, false, 9L, 3);
         promise20();
         promise22();
         promise23();
+        promise23inPlace();
         CHECK.end("LinesTest");
     }
 
@@ -61,6 +64,50 @@ public final class LinesTest {
             last = x.resolve(last, step + 1, step);
         }
         return x;
+    }
+
+    /** The proof of a stair from above: what is resolved is always the other line. */
+    private static Proofweigh otherStair() {
+        Proofweigh x = new Proofweigh();
+        x.stair(4);
+        Check.putAll(x);
+        int last = 4;
+        for (int step = 3; step >= 0; step--) {
+            last = x.resolve(step, last, step);
+        }
+        return x;
+    }
+
+    /** The irregular proof with each variable denied. */
+    private static Proofweigh otherIrregular() {
+        Proofweigh x = Check.formula(2, 8, 7, 5, 4);
+        x.line(0);
+        x.line(1);
+        x.resolve(1, 0, 0);
+        x.line(2);
+        x.resolve(3, 2, 1);
+        x.line(3);
+        x.resolve(5, 1, 1);
+        x.resolve(6, 4, 0);
+        return x;
+    }
+
+    /** Proofs that need one more, if a resolvent comes only in place of its first, or of its other line. */
+    private static void promise23inPlace() {
+        Proofweigh x = Check.formula(3, 12, 17, 20, 18, 16);
+        Check.putAll(x);
+        resolveAll(x, new int[][] {{4, 3, 2}, {0, 3, 2}, {5, 1, 0}, {6, 7, 1}, {8, 2, 2}, {6, 5, 1}, {10, 9, 0}});
+        CHECK.due("in place of the other line", 3, x::space);
+        Proofweigh y = Check.formula(3, 7, 11, 20, 22, 12);
+        Check.putAll(y);
+        resolveAll(y, new int[][] {{0, 2, 0}, {0, 1, 0}, {3, 2, 0}, {7, 5, 1}, {4, 8, 2}, {9, 6, 1}, {10, 8, 2}});
+        CHECK.due("in place of the first line", 3, y::space);
+    }
+
+    private static void resolveAll(Proofweigh x, int[][] steps) {
+        for (int[] step : steps) {
+            x.resolve(step[0], step[1], step[2]);
+        }
     }
 
     private static void promise15() {
@@ -217,6 +264,35 @@ public final class LinesTest {
         y.line(0);
         y.resolve(9, 5, 4);
         CHECK.due("lines that are not needed take no space", 2, y::space);
+        Proofweigh t = Check.formula(5, 1, 2 + 3, 6 + 9, 18 + 27, 54 + 81, 2 + 162);
+        Check.putAll(t);
+        int last = 0;
+        for (int variable = 0; variable < 4; variable++) {
+            last = t.resolve(last, variable + 1, variable);
+        }
+        t.resolve(last, t.resolve(0, 5, 0), 4);
+        CHECK.due("the size", 12, () -> t.proof('s'));
+        CHECK.due("space of 12 lines", 3, t::space);
+        Proofweigh w = stair(5);
+        w.cut(10);
+        w.add(5);
+        w.line(6);
+        w.resolve(0, 10, 0);
+        w.add(6);
+        w.line(7);
+        w.resolve(11, 12, 1);
+        CHECK.due("another end", 5, () -> w.proof('s'));
+        Proofweigh v = Check.formula(3, 1, 2 + 3, 2 + 6 + 9, 6 + 18, 2 + 6 + 18);
+        Check.putAll(v);
+        v.resolve(0, 1, 0);
+        v.resolve(2, 3, 2);
+        v.resolve(2, 4, 2);
+        v.resolve(5, 6, 1);
+        v.resolve(5, 7, 1);
+        CHECK.due("x0 denied twice", 2, () -> v.lineAt(9));
+        v.resolve(0, 8, 0);
+        CHECK.due("the size", 8, () -> v.proof('s'));
+        CHECK.due("the space", 3, v::space);
         Proofweigh z = Check.formula(3, 13, 14, 16, 17, 22, 23, 25, 26);
         CHECK.due("the first half", 0, () -> z.line(0));
         z.line(1);

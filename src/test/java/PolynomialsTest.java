@@ -9,6 +9,7 @@ public final class PolynomialsTest {
         promise39byValues();
         promises40and41();
         promises40and41edges();
+        promise41rows();
         changes();
         CHECK.end("PolynomialsTest");
     }
@@ -104,6 +105,18 @@ public final class PolynomialsTest {
         // Unlike the static one, the calculus needs the wide clause only where it is there.
         Proofweigh z = Check.formula(6, 364, 81, 162);
         dueDegrees("a wide clause that is not needed", z, 2, 1, 1);
+    }
+
+    /** Rows of steps whose variables do not rise: what comes first has to be multiplied by what comes next. */
+    private static void promise41rows() {
+        Proofweigh x = Check.formula(3, 3, 6 + 1, 2 + 9, 18);
+        Proofweigh y = Check.formula(4, 9, 18 + 1, 2 + 3, 6 + 27, 54);
+        Proofweigh z = Check.formula(6, 81, 162 + 1, 2 + 27, 54 + 3, 6 + 243, 486 + 9, 18);
+        for (int prime : PRIMES) {
+            dueDegrees("x1, x0, x2", x, prime, 2, 2);
+            dueDegrees("x2, x0, x1, x3", y, prime, 3, 2);
+            dueDegrees("x4, x0, x3, x1, x5, x2", z, prime, 3, 2);
+        }
     }
 
     private static void changes() {

@@ -31,14 +31,18 @@ public final class Check {
         }
     }
 
+    /** What a call answers, or the class of the exception that it throws. */
+    static Object answerOf(Call made) {
+        try {
+            return made.answer();
+        } catch (RuntimeException thrown) {
+            return thrown.getClass();
+        }
+    }
+
     /** Expects an answer, or, as a class of exceptions, that the call throws just this one. */
     void due(String call, Object due, Call made) {
-        Object got;
-        try {
-            got = made.answer();
-        } catch (RuntimeException thrown) {
-            got = thrown.getClass();
-        }
+        Object got = answerOf(made);
         if (due.equals(got)) {
             right++;
         } else {

@@ -4,6 +4,7 @@ import java.io.IOException;
 public final class BoundaryTest {
     public static void main(String[] args) throws IOException {
         Boundary b = new Boundary();
+        TermsBoundary.check(b);
         FormulasBoundary.check(b);
         LinesBoundary.check(b);
         TreesBoundary.check(b);
@@ -13,6 +14,7 @@ public final class BoundaryTest {
         UnitsBoundary.check(b);
         QuantorsBoundary.check(b);
         WholeBoundary.check(b);
+        OrderBoundary.check(b);
         b.end("BoundaryTest");
     }
 }

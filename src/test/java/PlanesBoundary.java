@@ -119,7 +119,7 @@ final class PlanesBoundary {
     }
 
     /** The empty clause: the bound alone grows. */
-    private static Proofweigh grownEmpty() {
+    static Proofweigh grownEmpty() {
         return grown(planesOf(6, 0));
     }
 
